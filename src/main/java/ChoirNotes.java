@@ -449,9 +449,9 @@ public final class ChoirNotes {
 
     /** One voice: its mensuration, its clef and its row of signs. */
     private static final class Voice {
-        private int brevesInLonga = 2;
-        private int semibrevesInBreve = 2;
-        private int minimsInSemibreve = 2;
+        private int brevesInLonga;
+        private int semibrevesInBreve;
+        private int minimsInSemibreve;
         private int clef = NONE;
         private int count;
         private final int[] kinds = new int[MOST_SIGNS];

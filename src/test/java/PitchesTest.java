@@ -156,6 +156,37 @@ public final class PitchesTest {
         Check.due("clashes(0, 1)", 3, () -> x.clashes(0, 1));
         Check.due("firstClash(0, 1)", 10, () -> x.firstClash(0, 1));
         signsThatEndTogetherDoNotCross();
+        fullVoices();
+    }
+
+    /** Voices of 24 signs, one of them longer, and signs that have been erased behind the others. */
+    private static void fullVoices() {
+        ChoirNotes x = twoVoices();
+        for (int v = 0; v < 2; v++) {
+            x.setClef(v, 2);
+            for (int n = 0; n < 24; n++) {
+                x.addNote(v, 2, 4, false); // 2 minims each in voice 0, 3 in voice 1
+            }
+        }
+        for (int one = 0; one < 2; one++) {
+            int a = one;
+            int b = 1 - one;
+            Check.due("clashes of full voices", 0, () -> x.clashes(a, b));
+            Check.due("firstClash of full voices", -1, () -> x.firstClash(a, b));
+            Check.due("clashes of a full voice with itself", 0, () -> x.clashes(a, a));
+            Check.due("firstClash of a full voice with itself", -1, () -> x.firstClash(a, a));
+            Check.due("canonClashes of a full voice", a == 0 ? 47 : 71, () -> x.canonClashes(a, 1, 1));
+        }
+        x.erase(0);
+        x.addNote(0, 2, 5, false); // 46 to 48
+        Check.due("clashes(0, 1)", 2, () -> x.clashes(0, 1));
+        Check.due("firstClash(1, 0)", 46, () -> x.firstClash(1, 0));
+        x.erase(0);
+        Check.due("clashes with an erased sign", 0, () -> x.clashes(0, 1));
+        Check.due("clashes with an erased sign", 0, () -> x.clashes(1, 0));
+        Check.due("firstClash with an erased sign", -1, () -> x.firstClash(0, 1));
+        Check.due("firstClash with an erased sign", -1, () -> x.firstClash(1, 0));
+        Check.due("fits without an erased sign", 6, () -> x.clefsThatFit(0));
     }
 
     /** As two signs end together, the next of one never sounds with the old one of the other. */

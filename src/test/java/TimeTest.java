@@ -19,7 +19,6 @@ public final class TimeTest {
         x.addVoice(2, 2, 3);
         x.addVoice(2, 2, 2);
         x.addNote(0, 0, 4, false);
-        x.setMensuration(0, 2, 2, 3);
         x.addNote(0, 1, 4, true);
         x.addRest(0, 2);
         x.addNote(0, 2, 4, true);

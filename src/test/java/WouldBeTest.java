@@ -13,7 +13,18 @@ public final class WouldBeTest {
         promise32BestDelay();
         promise33MeanLength();
         promise34Digest(x);
+        readmeExample();
         Check.finish();
+    }
+
+    private static void readmeExample() {
+        ChoirNotes book = new ChoirNotes();
+        int tenor = book.addVoice(2, 3, 2);
+        book.addNote(tenor, 1, 3, false);
+        book.addRest(tenor, 3);
+        book.addLigature(tenor, 7, 4, 6, false);
+        Check.due("the length that README.md tells", 31, () -> book.length(tenor));
+        Check.due("the clef that README.md tells", 0, () -> book.bestClef(tenor));
     }
 
     /** Three voices with two breves each, the first two with a clef, and an empty one. */
