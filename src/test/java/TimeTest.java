@@ -13,7 +13,7 @@ public final class TimeTest {
         Check.finish();
     }
 
-    /** Voice 0 lasts 12, 4, 3, 2, 1, 1 minims, voice 1 is empty. */
+    /** The signs of voice 0 last 12, 6, 3, 2, 1, 1 minims, voice 1 is empty. */
     private static ChoirNotes book() {
         ChoirNotes x = new ChoirNotes();
         x.addVoice(2, 2, 3);
