@@ -4,7 +4,8 @@ import java.lang.reflect.Method;
 /** Long runs of all calls, right and wrong ones, on a ChoirNotes and on a Model at once: every answer is compared. */
 public final class ModelTest {
     private static final int RUNS = 150;
-    private static final int CALLS = 512;
+    /** With the digest at the end there are 512, the most that the document promises. */
+    private static final int CALLS = 511;
 
     /**
      * A call and what its numbers are: m of a mensuration, v a voice, s a sign, k a kind, p a place, t a third

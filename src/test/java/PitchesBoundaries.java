@@ -204,6 +204,17 @@ final class PitchesBoundaries {
         return x;
     }
 
+    /** As the signs end together, the next of one voice never sounds with the old one of the other. */
+    private static ChoirNotes endTogether() {
+        ChoirNotes x = Boundary.longas(2, 0);
+        for (int v = 0; v < 2; v++) {
+            for (int place = 4; place <= 7; place++) {
+                x.addNote(v, place % 4, place, false);
+            }
+        }
+        return x;
+    }
+
     private static ChoirNotes allHigher() {
         ChoirNotes x = Boundary.longas(1, 24);
         x.addVoice(3, 3, 3);
@@ -223,7 +234,10 @@ final class PitchesBoundaries {
             for (int sign : new int[] {0, 1, 22, 23}) {
                 clashes(27, () -> oneHigher(sign));
             }
+            clashes(0, PitchesBoundaries::endTogether);
             clashes(4, () -> two(0, 4, 0, 5));
+            clashes(4, () -> two(0, 4, 1, 3));
+            clashes(0, () -> two(0, 4, 1, 2));
             clashes(0, () -> {
                 ChoirNotes x = two(0, 4, 0, 5);
                 x.erase(1);
@@ -287,7 +301,10 @@ final class PitchesBoundaries {
             for (int sign : new int[] {0, 1, 22, 23}) {
                 firstClash(27 * sign, () -> oneHigher(sign));
             }
+            firstClash(-1, PitchesBoundaries::endTogether);
             firstClash(0, () -> two(0, 4, 0, 5));
+            firstClash(0, () -> two(0, 4, 1, 3));
+            firstClash(-1, () -> two(0, 4, 1, 2));
             firstClash(-1, () -> two(0, 4, 0, 4));
             firstClash(-1, () -> {
                 ChoirNotes x = two(0, 4, 0, 5);

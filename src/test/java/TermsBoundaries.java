@@ -21,7 +21,7 @@ final class TermsBoundaries {
     private static void calls() {
         Boundary.test(T, "An object is used for at most 512 calls after it has been made", () -> {
             Boundary.answers("the 512th call, an erase", 1, () -> afterCalls(511), x -> x.erase(0));
-            Boundary.answers("the 512th call, after 510", 1, () -> afterCalls(510), x -> x.addRest(0, 3) + 1);
+            Boundary.answers("the 511th call, a rest", 0, () -> afterCalls(510), x -> x.addRest(0, 3));
             Boundary.answers("the 512th call, a digest", Boundary.notes(1).digest(), () -> {
                 ChoirNotes x = afterCalls(510);
                 x.addNote(0, 3, 4, false);
@@ -315,6 +315,9 @@ final class TermsBoundaries {
                 };
                 Boundary.answers("clashes(0, 1) of the distance " + distance, due[distance], book, x -> x.clashes(0, 1));
                 Boundary.answers("clashes(1, 0) of the distance " + distance, due[distance], book, x -> x.clashes(1, 0));
+                int first = due[distance] - 1;
+                Boundary.answers("firstClash(0, 1) of the distance " + distance, first, book, x -> x.firstClash(0, 1));
+                Boundary.answers("firstClash(1, 0) of the distance " + distance, first, book, x -> x.firstClash(1, 0));
             }
         });
     }

@@ -129,6 +129,18 @@ final class WouldBeBoundaries {
                 x.setClef(1, -1);
                 return x;
             }, x -> x.bestClef(0));
+            // Each clef, 0 to 5, by turns the one with the fewest: none, where each other one has at least one.
+            int[][] others = {{0, 4}, {1, 2}, {3, 4}, {5, 6}, {0, 1}, {2, 3}};
+            for (int clef = 0; clef <= 5; clef++) {
+                int[] pitches = others[clef];
+                Boundary.answers("bestClef against " + pitches[0] + " and " + pitches[1], clef, () -> {
+                    ChoirNotes x = against(4, pitches[0]);
+                    x.addVoice(2, 2, 2);
+                    x.setClef(2, 0);
+                    x.addNote(2, 1, pitches[1], false);
+                    return x;
+                }, x -> x.bestClef(0));
+            }
             // Of clefs that do not fit none is taken, though it has the fewest clashes.
             Boundary.answers("bestClef, 0 and 1 with no clash and 2 and 3 with some", 2, () -> {
                 ChoirNotes x = evenly(0, 0);
@@ -354,6 +366,25 @@ final class WouldBeBoundaries {
             wraps("a full voice", () -> Boundary.longas(1, 24), true);
             wraps("four voices", () -> Boundary.ready(4), true);
             wraps("no voice", () -> Boundary.emptyVoices(0), false);
+        });
+        Boundary.test(34, "canonClashes() with the delay 4 and 0 higher, bestDelay() of 4 higher", () -> {
+            Boundary.Recipe book = () -> {
+                ChoirNotes x = Boundary.emptyVoices(1);
+                x.addNote(0, 1, 4, false);
+                x.addNote(0, 1, 5, false);
+                return x;
+            };
+            // Next to both numbers the answers are others, so that the digest tells which of them it takes.
+            int[] clashes = {3, 4, 3};
+            int[] delays = {4, 8, 1};
+            for (int i = 0; i < 3; i++) {
+                int number = 3 + i;
+                Boundary.answers("canonClashes(0, " + number + ", 0)", clashes[i], book, x -> x.canonClashes(0, number, 0));
+                Boundary.answers("bestDelay(0, " + number + ")", delays[i], book, x -> x.bestDelay(0, number));
+            }
+            Boundary.answers("canonClashes(0, 4, 1)", 0, book, x -> x.canonClashes(0, 4, 1));
+            Boundary.answers("canonClashes(0, 4, -1)", 0, book, x -> x.canonClashes(0, 4, -1));
+            wraps("a voice that clashes with itself in canon", book, true);
         });
         Boundary.test(34, "Returns d.", () -> {
             Boundary.answers("digest() of an empty voice", DIGEST_OF_EMPTY_VOICE, () -> Boundary.emptyVoices(1), x -> x.digest());
